@@ -200,17 +200,18 @@ public final class StripeFiles {
             case REMOVE:
                 shelf.remove(firstName);
                 return before;
+            case SIZE:
             default:
                 return before;
         }
     }
 
-    private int cutFile(StripedFile cut, int a) {
-        int before = cut.length();
+    private int cutFile(StripedFile target, int a) {
+        int before = target.length();
         if (a > before && !shelf.hasRoom(before, a)) {
             return FULL;
         }
-        cut.cut(a);
+        target.cut(a);
         return before;
     }
 

@@ -33,6 +33,10 @@ final class Due {
         return text.getBytes(StandardCharsets.ISO_8859_1);
     }
 
+    static String text(byte[] bytes) {
+        return new String(bytes, StandardCharsets.ISO_8859_1);
+    }
+
     /** So many bytes that are all the same. */
     static byte[] many(int n, int value) {
         byte[] made = new byte[n];
