@@ -4,6 +4,7 @@ import java.util.Arrays;
 /** What the tests share: comparing answers with those that are due, and bringing texts in. */
 final class Due {
     private static int wrong = 0;
+    private static String sentence = "";
 
     private Due() {
     }
@@ -11,15 +12,21 @@ final class Due {
     static void is(String call, long got, long want) {
         if (got != want) {
             wrong++;
-            System.out.println(call + " answered " + got + ", due is " + want);
+            System.out.println(sentence + call + " answered " + got + ", due is " + want);
         }
     }
 
     static void same(String call, String got, String want) {
         if (!got.equals(want)) {
             wrong++;
-            System.out.println(call + " is " + got + ", due is " + want);
+            System.out.println(sentence + call + " is " + got + ", due is " + want);
         }
+    }
+
+    /** A new object to test what the document says in these words; wrong answers are told with them. */
+    static StripeFiles sentence(String words) {
+        sentence = "\"" + words + "\": ";
+        return new StripeFiles();
     }
 
     /** Ends the test, with exit code 1 if an answer was wrong. */
@@ -88,5 +95,36 @@ final class Due {
 
     static void told(StripeFiles x, String want) {
         told(x, bytes(want));
+    }
+
+    /** Makes so many FILES without bytes, with names of two bytes. */
+    static void makeMany(StripeFiles x, int n) {
+        for (int k = 0; k < n; k++) {
+            make(x, "f" + (char) (k + 100));
+        }
+    }
+
+    /** Four FILES f0 to f3, the last of them so much shorter than the others that so many bytes are left. */
+    static void leaveRoom(StripeFiles x, int left) {
+        for (int k = 0; k < 4; k++) {
+            make(x, "f" + k);
+            is("CUT", x.run(3, k < 3 ? 8192 : 8192 - left, 0), 0);
+        }
+    }
+
+    /** The FILES as far as calls that are no OPERATION can see them, with the first bytes of their stripes. */
+    static String files(StripeFiles x) {
+        StringBuilder seen = new StringBuilder();
+        for (int what = 0; what <= 2; what++) {
+            seen.append(x.count(what)).append(' ');
+        }
+        for (int k = 0; k < x.count(0); k++) {
+            seen.append('(');
+            for (int what = 0; what <= 3; what++) {
+                seen.append(x.file(k, what)).append(' ');
+            }
+            seen.append(x.piece(k, 0, 0)).append(' ').append(x.piece(k, 1, 0)).append(')');
+        }
+        return seen.toString();
     }
 }
