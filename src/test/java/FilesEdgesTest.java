@@ -15,6 +15,7 @@ public final class FilesEdgesTest {
         stripesOf448();
         lastStripeHasWhatThereIs();
         laidByOneByte();
+        laidFromEdgeToEdge();
         laidByWriteAndAppendAlone();
         laidNoMoreWithoutAByte();
         laidWhileThereIsAByte();
@@ -216,6 +217,25 @@ public final class FilesEdgesTest {
         Due.tape(x, Due.bytes("\0"));
         Due.is("APPEND", x.run(2, 0, 0), 1);
         Due.is("by APPEND", x.file(0, 3), 3);
+    }
+
+    private static void laidFromEdgeToEdge() {
+        StripeFiles x = Due.sentence("It is LAID if one of its bytes was written by WRITE or APPEND");
+        Due.make(x, "f");
+        Due.is("CUT", x.run(3, 448 * 3, 0), 0);
+        Due.write(x, "f", 448, Due.many(448, 'a'));
+        Due.is("just STRIPE 1", x.file(0, 3), 1);
+        Due.is("STRIPE 0", x.piece(0, 0, 447), -2);
+        Due.is("STRIPE 1, its first", x.piece(0, 1, 0), 'a');
+        Due.is("STRIPE 1, its last", x.piece(0, 1, 447), 'a');
+        Due.is("STRIPE 2", x.piece(0, 2, 0), -2);
+        Due.tape(x, Due.bytes("b"));
+        Due.is("APPEND from an edge on", x.run(2, 0, 0), 1);
+        Due.is("STRIPE 2 still", x.piece(0, 2, 447), -2);
+        Due.is("STRIPE 3", x.piece(0, 3, 0), 'b');
+        Due.write(x, "g", 447, Due.many(2040, 'c'));
+        Due.is("six STRIPES by one TAPE", x.file(1, 3), 6);
+        Due.is("bytes", x.file(1, 0), 2487);
     }
 
     private static void laidByWriteAndAppendAlone() {

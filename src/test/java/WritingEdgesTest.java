@@ -16,6 +16,7 @@ public final class WritingEdgesTest {
         writeIsFullFor49th();
         writeIsFullBeyond8192();
         writeIsFullBeyond32768();
+        whatGoesLeavesRoom();
         appendAtTheEnd();
         appendIsFullFor49th();
         appendIsFullBeyond8192();
@@ -238,6 +239,11 @@ public final class WritingEdgesTest {
         Due.tape(x, Due.bytes("a"));
         Due.is("WRITE 8191 of one byte", x.run(1, 8191, 0), 1);
         Due.is("bytes of g", x.file(1, 0), 8192);
+        Due.write(x, "h", 0, Due.bytes("a"));
+        Due.tape(x, Due.bytes("bc"));
+        Due.is("WRITE to 8193 far behind the end", x.run(1, 8191, 0), -4);
+        Due.is("bytes of h stay", x.file(2, 0), 1);
+        Due.is("LAID of h stays", x.file(2, 3), 1);
     }
 
     private static void writeIsFullBeyond32768() {
@@ -262,18 +268,36 @@ public final class WritingEdgesTest {
         Due.told(x, "\0bc");
     }
 
+    private static void whatGoesLeavesRoom() {
+        StripeFiles x = Due.sentence("or all FILES more than 32768");
+        Due.leaveRoom(x, 0);
+        Due.make(x, "g");
+        Due.name(x, 1, "f0");
+        Due.is("RENAME over one of 8192 bytes", x.run(6, 0, 0), 1);
+        Due.name(x, 0, "f0");
+        Due.tape(x, Due.bytes("z"));
+        Due.is("WRITE in its room", x.run(1, 8191, 0), 1);
+        Due.is("CUT", x.run(3, 8190, 0), 8192);
+        Due.name(x, 0, "h");
+        Due.tape(x, Due.bytes("abc"));
+        Due.is("WRITE of more than was cut off", x.run(1, 0, 0), -4);
+        Due.tape(x, Due.bytes("ab"));
+        Due.is("WRITE of what was cut off", x.run(1, 0, 0), 2);
+        Due.is("count(1)", x.count(1), 32768);
+    }
+
     private static void appendAtTheEnd() {
         StripeFiles x = Due.sentence("2 APPEND: as WRITE, at its end.");
         Due.name(x, 0, "f");
-        int[] places = {0, -1, 8193, Integer.MIN_VALUE, Integer.MAX_VALUE};
+        int[] places = {500, 0, 8192, -1, 8193, Integer.MIN_VALUE, Integer.MAX_VALUE};
         for (int i = 0; i < places.length; i++) {
             Due.tape(x, Due.bytes("" + (char) ('a' + i)));
             Due.is("APPEND " + places[i], x.run(2, places[i], places[i]), 1);
             Due.is("bytes", x.file(0, 0), i + 1);
         }
-        Due.is("READ", x.run(4, 0, 9), 5);
-        Due.told(x, "abcde");
-        Due.is("CUT", x.run(3, 448, 0), 5);
+        Due.is("READ", x.run(4, 0, 9), 7);
+        Due.told(x, "abcdefg");
+        Due.is("CUT", x.run(3, 448, 0), 7);
         Due.tape(x, Due.bytes("z"));
         Due.is("APPEND at an edge", x.run(2, 0, 0), 1);
         Due.is("piece", x.piece(0, 1, 0), 'z');
